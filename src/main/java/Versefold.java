@@ -147,15 +147,15 @@ public final class Versefold {
 
     public boolean holds(int branch, int knowing, int hour, int fact)
             throws IndexOutOfBoundsException, IllegalArgumentException {
-        return askedState(branch, knowing, hour, fact).has(fact);
+        Branch row = branchAt(branch);
+        checkAsked(row, knowing, hour, fact);
+        return stateOf(row, knowing, hour).has(fact);
     }
 
     public boolean holdsAnew(int branch, int knowing, int hour, int fact)
             throws IndexOutOfBoundsException, IllegalArgumentException {
         Branch row = branchAt(branch);
-        checkKnowing(row, knowing);
-        checkHour(hour);
-        checkFact(fact);
+        checkAsked(row, knowing, hour, fact);
         return stateAnew(row, knowing, hour).has(fact);
     }
 
@@ -170,8 +170,9 @@ public final class Versefold {
 
     public int spanFrom(int branch, int knowing, int hour, int fact)
             throws IndexOutOfBoundsException, IllegalArgumentException, NoSuchElementException {
-        checkHeld(askedState(branch, knowing, hour, fact), fact);
         Branch row = branchAt(branch);
+        checkAsked(row, knowing, hour, fact);
+        checkHeld(stateOf(row, knowing, hour), fact);
         int from = hour;
         while (from > 0 && stateOf(row, knowing, from - 1).has(fact)) {
             from--;
@@ -181,8 +182,9 @@ public final class Versefold {
 
     public int spanTo(int branch, int knowing, int hour, int fact)
             throws IndexOutOfBoundsException, IllegalArgumentException, NoSuchElementException {
-        checkHeld(askedState(branch, knowing, hour, fact), fact);
         Branch row = branchAt(branch);
+        checkAsked(row, knowing, hour, fact);
+        checkHeld(stateOf(row, knowing, hour), fact);
         int to = hour;
         while (to < HOURS - 1 && stateOf(row, knowing, to + 1).has(fact)) {
             to++;
@@ -192,7 +194,8 @@ public final class Versefold {
 
     public int since(int branch, int hour, int fact) throws IndexOutOfBoundsException, IllegalArgumentException {
         Branch row = branchAt(branch);
-        boolean isHeld = askedState(branch, row.size, hour, fact).has(fact);
+        checkAsked(row, row.size, hour, fact);
+        boolean isHeld = stateOf(row, row.size, hour).has(fact);
         int knowing = row.size;
         while (knowing > 0 && stateOf(row, knowing - 1, hour).has(fact) == isHeld) {
             knowing--;
@@ -460,6 +463,12 @@ public final class Versefold {
         }
     }
 
+    private static void checkAsked(Branch row, int knowing, int hour, int fact) {
+        checkKnowing(row, knowing);
+        checkHour(hour);
+        checkFact(fact);
+    }
+
     private static void checkHeld(State state, int fact) {
         if (!state.has(fact)) {
             throw new NoSuchElementException("the fact does not hold");
@@ -504,14 +513,6 @@ public final class Versefold {
         return pairs;
     }
 
-    private State askedState(int branch, int knowing, int hour, int fact) {
-        Branch row = branchAt(branch);
-        checkKnowing(row, knowing);
-        checkHour(hour);
-        checkFact(fact);
-        return stateOf(row, knowing, hour);
-    }
-
     private State stateOf(Branch row, int knowing, int hour) {
         State kept = row.kept[hour];
         row.read(knowing, hour, fresh);
@@ -529,7 +530,9 @@ public final class Versefold {
     }
 
     private void findReason(int branch, int knowing, int hour, int fact) {
-        State state = askedState(branch, knowing, hour, fact);
+        Branch row = branchAt(branch);
+        checkAsked(row, knowing, hour, fact);
+        State state = stateOf(row, knowing, hour);
         checkHeld(state, fact);
         reasons.read(book, state);
     }
@@ -758,19 +761,23 @@ public final class Versefold {
      */
     private static final class Pattern {
         int relation;
-        int one;
-        int other;
         boolean isContrary;
+        int oneShift;
+        int otherShift;
 
-        void become(int newRelation, int newOne, int newOther, boolean isNowContrary) {
+        void become(int newRelation, int one, int other, boolean isNowContrary) {
             relation = newRelation;
-            one = newOne;
-            other = newOther;
             isContrary = isNowContrary;
+            oneShift = shiftOf(one);
+            otherShift = shiftOf(other);
+        }
+
+        private static int shiftOf(int variable) {
+            return 3 * (VARIABLES - 1 - variable);
         }
 
         int pairOf(int way) {
-            return THINGS * (way >> 6 - 3 * one & 7) + (way >> 6 - 3 * other & 7);
+            return THINGS * (way >> oneShift & 7) + (way >> otherShift & 7);
         }
 
         int factOf(int way) {
@@ -778,12 +785,12 @@ public final class Versefold {
         }
 
         int digits() {
-            return 7 << 6 - 3 * one | 7 << 6 - 3 * other;
+            return 7 << oneShift | 7 << otherShift;
         }
 
         /** The digits behind its last variable: ways that differ only in these are the same to it. */
         int freeDigits() {
-            return (1 << 6 - 3 * Math.max(one, other)) - 1;
+            return (1 << (oneShift < otherShift ? oneShift : otherShift)) - 1;
         }
     }
 

@@ -10,6 +10,8 @@ final class AnswersTest {
         stepsOfOneLayer();
         variablesPutAlike();
         layersOneByOne();
+        sixLayers();
+        layersOfTheBranchAsked();
         pastKnowings();
         refusedHolds();
         count();
@@ -32,8 +34,8 @@ final class AnswersTest {
 
     private static void dueHolds(boolean want, Versefold x, int branch, int knowing, int hour, int fact) {
         String what = "holds " + branch + " " + knowing + " " + hour + " " + fact;
-        Check.due(what, want, x.holds(branch, knowing, hour, fact));
         Check.due(what + " anew", want, x.holdsAnew(branch, knowing, hour, fact));
+        Check.due(what, want, x.holds(branch, knowing, hour, fact));
     }
 
     private static void knowing() {
@@ -111,6 +113,44 @@ final class AnswersTest {
         dueHolds(false, x, 0, 6, 5, 320 + 5);
         x.untell(0, 128 + 5, 0, 23);
         dueHolds(true, x, 0, 7, 6, 128 + 5);
+    }
+
+    /** Each relation holds where the relation 0 does and the one below does not. */
+    private static void sixLayers() {
+        Versefold x = new Versefold();
+        for (int rule = 0; rule < 5; rule++) {
+            x.addRule(rule + 1, 0, 1, 0, 0, 1);
+            x.addCondition(rule, rule, rule == 0 ? 1 : 0, rule == 0 ? 0 : 1, true);
+        }
+        for (int rule = 4; rule >= 0; rule--) {
+            x.turn(0, rule, true);
+        }
+        x.tell(0, 1, 0, 23);
+        x.tell(0, 8, 9, 9);
+        int[] oneWay = {1, 1, 0, 1, 0, 1};
+        int[] bothWays = {2, 0, 2, 0, 2, 0};
+        for (int relation = 0; relation < 6; relation++) {
+            Check.due("relation " + relation, oneWay[relation], x.count(0, 7, 8, relation));
+            Check.due("relation " + relation + " at 9", bothWays[relation], x.count(0, 7, 9, relation));
+            Check.due("layer " + relation, relation, x.layer(0, relation));
+        }
+    }
+
+    private static void layersOfTheBranchAsked() {
+        Versefold x = new Versefold();
+        x.addRule(2, 0, 1, 0, 0, 1);
+        x.addCondition(0, 1, 0, 1, true);
+        x.addRule(1, 0, 1, 0, 0, 1);
+        x.turn(0, 0, true);
+        x.turn(0, 1, true);
+        x.tell(0, 1, 0, 0);
+        x.fork(0, 0);
+        for (int relation = 0; relation < 6; relation++) {
+            Check.due("no layers there", 0, x.layer(1, relation));
+        }
+        dueHolds(false, x, 0, 3, 0, 128 + 1);
+        x.layer(1, 2);
+        dueHolds(true, x, 0, 3, 0, 64 + 1);
     }
 
     private static void pastKnowings() {

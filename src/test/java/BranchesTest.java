@@ -211,6 +211,8 @@ final class BranchesTest {
         dueMerge(x, 1, 2, 3);
         Check.due("full", 60, x.knowing(0));
         Check.due("the second one is there", true, x.holds(0, 60, 0, 11));
+        Check.due("a fork of all 60", 60, x.knowing(x.fork(0, 60)));
+        Check.due("with the same seal", x.seal(0, 60), x.seal(2, 60));
         x.untell(1, 5, 0, 0);
         dueMerge(x, 1, 0, 1);
         dueMerge(x, 1, 0, 0);

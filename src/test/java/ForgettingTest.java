@@ -56,6 +56,10 @@ final class ForgettingTest {
         Check.due("so that it is not told there", false, x.holds(2, 3, 0, 1));
         Check.due("nor forgotten anew", 0, x.forget(0));
         Check.due("but what is not, in both", 2, x.forget(1));
+        x.fork(0, 0);
+        x.tell(3, 63, 0, 0);
+        Check.due("in the last branch", 1, x.forget(7));
+        Check.due("and no more", true, x.isForgotten(3, 0));
     }
 
     private static void pastIsForgotten() {

@@ -626,7 +626,8 @@ final class Model {
         return greatest + 1;
     }
 
-    private int[] ranks(int branch, int knowing, int hour) {
+    /** A rank for each fact, above 384 for one that does not hold. */
+    int[] ranks(int branch, int knowing, int hour) {
         boolean[] held = held(branch, knowing, hour);
         int[] ranks = new int[384];
         for (int fact = 0; fact < 384; fact++) {

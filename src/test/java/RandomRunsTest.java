@@ -18,17 +18,18 @@ final class RandomRunsTest {
     private final int relations;
     private final boolean isTame;
     private final int[] weights;
+    private int rules = 0;
     private String wrong = "";
 
     private RandomRunsTest(long seed) {
         random = new Random(seed);
         things = 2 + random.nextInt(7);
         hours = random.nextBoolean() ? 24 : 1 + random.nextInt(4);
-        relations = 2 + random.nextInt(5);
+        relations = 3 + random.nextInt(4);
         isTame = random.nextInt(4) > 0;
-        weights = new int[] {8 + random.nextInt(20), random.nextInt(12), random.nextInt(3), 3 + random.nextInt(3),
-            3 + random.nextInt(3), 5 + random.nextInt(8), 1, 1, 1, 4, 2, 2, 1, 1, 1, 2, 2, 3, 2,
-            random.nextInt(3) / 2, 1, 1, random.nextInt(2), random.nextInt(4), 1, 1, 2, 6, 1, 1, 1, 1};
+        weights = new int[] {4 + random.nextInt(20), 1 + random.nextInt(8), random.nextInt(3), 1, 1,
+            1 + random.nextInt(6), 2, 3, 1, 6, 5, 3, 3, 3, 4, 6, 6, 8, 6,
+            random.nextInt(4) / 3, 1, 2, 1, 1 + random.nextInt(3), 2, 1, 2, 8, 2, 3, 3, 1};
     }
 
     static void run(int first, int runs) {
@@ -40,10 +41,60 @@ final class RandomRunsTest {
     }
 
     private String compare() {
-        for (int i = 0; i < CALLS && wrong.isEmpty(); i++) {
+        for (int i = random.nextInt(8); i > 0; i--) {
+            addUsableRule();
+            if (random.nextInt(4) > 0) {
+                turn(0, rules - 1, true);
+            }
+        }
+        while (told.size() < CALLS && wrong.isEmpty()) {
             call(kind());
         }
         return wrong;
+    }
+
+    /** A rule with bound variables, contrary at most to lower relations: most of these can be on together. */
+    private void addUsableRule() {
+        int head = 1 + random.nextInt(relations - 1);
+        int first = random.nextInt(head + 1);
+        int second = random.nextInt(head + 1);
+        int rule = rules;
+        switch (random.nextInt(5)) {
+            case 0 -> addRule(head, 0, 1, first, 0, 1);
+            case 1 -> addRule(head, 0, 1, first, 1, 0);
+            case 2 -> {
+                addRule(head, 0, 2, first, 0, 1);
+                addCondition(rule, second, 1, 2, false);
+            }
+            case 3 -> {
+                addRule(head, 2, 0, first, 0, 1);
+                addCondition(rule, second, 2, 1, false);
+            }
+            default -> {
+                addRule(head, random.nextInt(3), random.nextInt(3), first, 1, 2);
+                addCondition(rule, second, random.nextInt(3), 0, false);
+            }
+        }
+        if (random.nextInt(3) > 0) {
+            boolean isContrary = random.nextInt(3) > 0;
+            int relation = random.nextInt(isContrary ? head : head + 1);
+            addCondition(rule, relation, random.nextInt(2), random.nextInt(2), isContrary);
+        }
+    }
+
+    private void addRule(int p, int u, int v, int q, int w, int y) {
+        rules++;
+        same("addRule " + p + " " + u + " " + v + " " + q + " " + w + " " + y,
+                () -> x.addRule(p, u, v, q, w, y), () -> m.addRule(p, u, v, q, w, y));
+    }
+
+    private void turn(int b, int r, boolean is) {
+        same("turn " + b + " " + r + " " + is, () -> x.turn(b, r, is), () -> m.turn(b, r, is));
+    }
+
+    private void addCondition(int r, int p, int u, int v, boolean isContrary) {
+        same("addCondition " + r + " " + p + " " + u + " " + v + " " + isContrary,
+                () -> x.addCondition(r, p, u, v, isContrary), () -> m.addCondition(r, p, u, v, isContrary));
     }
 
     private int kind() {
@@ -85,12 +136,21 @@ final class RandomRunsTest {
         return random.nextInt(3) == 0 ? fact() : fact() % 128;
     }
 
+    /** Mostly one that is there. */
     private int branch() {
-        return random.nextInt(3) == 0 ? pick(4) : 0;
+        int there = 1;
+        while (there < 4 && isBranch(there)) {
+            there++;
+        }
+        return random.nextInt(40) == 0 ? pick(4) : random.nextInt(there);
+    }
+
+    private boolean isBranch(int branch) {
+        return Check.answer(() -> m.knowing(branch)) instanceof Integer;
     }
 
     private int knowing(int branch) {
-        Object size = Check.answer(() -> x.knowing(branch));
+        Object size = Check.answer(() -> m.knowing(branch));
         int end = size instanceof Integer ? (Integer) size : 0;
         return random.nextInt(3) > 0 ? end : pick(end + 1);
     }
@@ -122,7 +182,7 @@ final class RandomRunsTest {
         int f = factToTell();
         int s = Math.min(Math.max(-9, from()), 99);
         int t = to(s);
-        int r = pick(10);
+        int r = random.nextInt(8) == 0 ? pick(10) : pick(rules);
         int p = pick(relations);
         int q = pick(relations);
         int u = variable();
@@ -135,11 +195,9 @@ final class RandomRunsTest {
             case 1 -> same("untell " + b + " " + f + " " + s + " " + t,
                     () -> x.untell(b, f, s, t), () -> m.untell(b, f, s, t));
             case 2 -> same("setUnique " + p + " " + is, () -> x.setUnique(p, is), () -> m.setUnique(p, is));
-            case 3 -> same("addRule " + p + " " + u + " " + v + " " + q + " " + w + " " + y,
-                    () -> x.addRule(p, u, v, q, w, y), () -> m.addRule(p, u, v, q, w, y));
-            case 4 -> same("addCondition " + r + " " + p + " " + u + " " + v + " " + !is,
-                    () -> x.addCondition(r, p, u, v, !is), () -> m.addCondition(r, p, u, v, !is));
-            case 5 -> same("turn " + b + " " + r + " " + is, () -> x.turn(b, r, is), () -> m.turn(b, r, is));
+            case 3 -> addRule(p, u, v, q, w, y);
+            case 4 -> addCondition(r, p, u, v, !is);
+            case 5 -> turn(b, r, is);
             case 6 -> {
                 int k = knowing(b);
                 same("isOn " + b + " " + r + " " + k, () -> x.isOn(b, r, k), () -> m.isOn(b, r, k));
@@ -173,16 +231,23 @@ final class RandomRunsTest {
         }
     }
 
-    /** A fact that the model holds, the first one behind a drawn one, so that spans and reasons are often there. */
+    /** A fact that holds, mostly one that is derived, so that spans and reasons are often there. */
     private int heldFact(int b, int k, int h) {
         int from = fact();
-        for (int i = 0; i < 384; i++) {
-            int fact = Math.floorMod(from + i, 384);
-            if (Boolean.TRUE.equals(Check.answer(() -> x.holds(b, k, h, fact)))) {
-                return fact;
+        int least = random.nextInt(5) > 0 ? 1 + random.nextInt(4) : 0;
+        int found = from;
+        if (Check.answer(() -> m.count(b, k, h, 0)) instanceof Integer) {
+            int[] ranks = m.ranks(b, k, h);
+            int best = -1;
+            for (int i = 0; i < 384; i++) {
+                int fact = Math.floorMod(from + i, 384);
+                if (ranks[fact] <= 384 && ranks[fact] > best && best < least) {
+                    best = ranks[fact];
+                    found = fact;
+                }
             }
         }
-        return from;
+        return found;
     }
 
     private void callOfOthers(int kind) {
@@ -195,7 +260,7 @@ final class RandomRunsTest {
         int one = random.nextInt(3) > 0 ? -1 : pick(things);
         int other = random.nextInt(3) > 0 ? -1 : pick(things);
         int t = pick(Math.max(1, k));
-        int from = random.nextInt(20) == 0 ? pick(4) : 1 + random.nextInt(3);
+        int from = random.nextInt(20) == 0 ? pick(4) : Math.max(1, branch());
         switch (kind) {
             case 19 -> same("forget " + thing, () -> x.forget(thing), () -> m.forget(thing));
             case 20 -> same("isForgotten " + b + " " + t, () -> x.isForgotten(b, t), () -> m.isForgotten(b, t));
