@@ -16,6 +16,15 @@ public final class AllTests {
         BranchesTest.run();
         ListenersTest.run();
         FiguresTest.run();
+        FactEdgesTest.run();
+        RuleEdgesTest.run();
+        AnswerEdgesTest.run();
+        ReasonEdgesTest.run();
+        ForgettingEdgesTest.run();
+        BranchEdgesTest.run();
+        ListenerEdgesTest.run();
+        FigureEdgesTest.run();
+        RangesTest.run();
         RandomRunsTest.run(0, args.length > 1 ? Integer.parseInt(args[1]) : RANDOM_RUNS);
         Check.printSummary();
         if (Check.failures() > 0) {

@@ -49,7 +49,7 @@ final class AnswersTest {
         x.forget(0);
         Check.due("forgotten ones count", 4, x.knowing(0));
         for (int wrong : new int[] {-1, 2, 4, Integer.MIN_VALUE, Integer.MAX_VALUE}) {
-            Check.refused("no branch", IndexOutOfBoundsException.class, x, () -> x.knowing(wrong));
+            Check.refused("no branch", IndexOutOfBoundsException.class, () -> x.knowing(wrong));
         }
     }
 
@@ -174,7 +174,7 @@ final class AnswersTest {
         Versefold x = withClosure();
         x.fork(0, 1);
         for (int wrong : WRONG) {
-            Check.refused("no branch", IndexOutOfBoundsException.class, x, () -> x.holds(wrong, 0, 24, 384));
+            Check.refused("no branch", IndexOutOfBoundsException.class, () -> x.holds(wrong, 0, 24, 384));
             Check.refused("no branch", IndexOutOfBoundsException.class, () -> x.holdsAnew(wrong, 0, 24, 384));
             Check.refused("no branch", IndexOutOfBoundsException.class, () -> x.count(wrong, 0, 24, 6));
             Check.refused("no knowing", IndexOutOfBoundsException.class, () -> x.holds(0, wrong, 24, 384));
@@ -186,7 +186,7 @@ final class AnswersTest {
             Check.refused("no relation", IllegalArgumentException.class, () -> x.count(0, 0, 0, wrong));
         }
         for (int fact : new int[] {-1, 384, Integer.MIN_VALUE, Integer.MAX_VALUE}) {
-            Check.refused("no fact", IllegalArgumentException.class, x, () -> x.holds(0, 0, 0, fact));
+            Check.refused("no fact", IllegalArgumentException.class, () -> x.holds(0, 0, 0, fact));
             Check.refused("no fact", IllegalArgumentException.class, () -> x.holdsAnew(0, 0, 0, fact));
         }
         Check.refused("a knowing of the other branch", IndexOutOfBoundsException.class, () -> x.holds(1, 2, 0, 0));
@@ -254,9 +254,9 @@ final class AnswersTest {
         }
         int[][] notHeld = {{4, 1, 3}, {7, 1, 3}, {5, 1, 2}, {5, 2, 3}, {4, 65, 3}};
         for (int[] row : notHeld) {
-            Check.refused("not held", java.util.NoSuchElementException.class, x,
+            Check.refused("not held", java.util.NoSuchElementException.class,
                     () -> x.spanFrom(0, row[2], row[0], row[1]));
-            Check.refused("not held", java.util.NoSuchElementException.class, x,
+            Check.refused("not held", java.util.NoSuchElementException.class,
                     () -> x.spanTo(0, row[2], row[0], row[1]));
         }
     }
@@ -295,8 +295,8 @@ final class AnswersTest {
         x.fork(0, 5);
         Check.due("in the fork", 4, x.since(1, 5, 66));
         for (int wrong : WRONG) {
-            Check.refused("no branch", IndexOutOfBoundsException.class, x, () -> x.since(wrong, 24, 384));
-            Check.refused("no hour", IllegalArgumentException.class, x, () -> x.since(0, wrong, 0));
+            Check.refused("no branch", IndexOutOfBoundsException.class, () -> x.since(wrong, 24, 384));
+            Check.refused("no hour", IllegalArgumentException.class, () -> x.since(0, wrong, 0));
         }
         Check.refused("hour 24", IllegalArgumentException.class, () -> x.since(0, 24, 0));
         for (int fact : new int[] {-1, 384, Integer.MIN_VALUE, Integer.MAX_VALUE}) {

@@ -49,10 +49,10 @@ final class BranchesTest {
         Versefold x = new Versefold();
         x.tell(0, 1, 0, 23);
         for (int wrong : WRONG) {
-            Check.refused("no branch", IndexOutOfBoundsException.class, x, () -> x.fork(wrong, 0));
-            Check.refused("no knowing", IndexOutOfBoundsException.class, x, () -> x.fork(0, wrong));
+            Check.refused("no branch", IndexOutOfBoundsException.class, () -> x.fork(wrong, 0));
+            Check.refused("no knowing", IndexOutOfBoundsException.class, () -> x.fork(0, wrong));
         }
-        Check.refused("the next knowing", IndexOutOfBoundsException.class, x, () -> x.fork(0, 2));
+        Check.refused("the next knowing", IndexOutOfBoundsException.class, () -> x.fork(0, 2));
         Check.due("none was made", 1, x.fork(0, 0));
         x.fork(0, 0);
         Check.due("the last one", 3, x.fork(0, 0));
@@ -271,9 +271,9 @@ final class BranchesTest {
         x.tell(1, 1, 0, 0);
         dueMerge(x, 1, 0, 1);
         for (int wrong : new int[] {-1, 2, 4, Integer.MIN_VALUE, Integer.MAX_VALUE}) {
-            Check.refused("no branch", IndexOutOfBoundsException.class, x, () -> x.merge(wrong));
+            Check.refused("no branch", IndexOutOfBoundsException.class, () -> x.merge(wrong));
         }
-        Check.refused("the branch 0", IllegalArgumentException.class, x, () -> x.merge(0));
+        Check.refused("the branch 0", IllegalArgumentException.class, () -> x.merge(0));
         Check.due("the conflicts stay", 1, x.conflicts());
     }
 }

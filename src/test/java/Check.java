@@ -17,14 +17,7 @@ final class Check {
         }
     }
 
-    /** A call of this object must throw just this exception and change nothing that can be asked for. */
-    static void refused(String what, Class<? extends RuntimeException> want, Versefold x, Supplier<?> call) {
-        String before = Snapshot.of(x);
-        due(what, want.getSimpleName(), answer(call));
-        due(what + " changes nothing", before, Snapshot.of(x));
-    }
-
-    /** The same for calls that only ask. */
+    /** The call must throw just this exception; Story and RangesTest hold that such a call changes nothing. */
     static void refused(String what, Class<? extends RuntimeException> want, Supplier<?> call) {
         due(what, want.getSimpleName(), answer(call));
     }

@@ -18,10 +18,10 @@ final class FactsTest {
         Versefold x = new Versefold();
         Check.due("a new branch 0 has no tellings", 0, x.knowing(0));
         Check.due("its seal", 1, x.seal(0, 0));
-        Check.refused("there is no branch 1", IndexOutOfBoundsException.class, x, () -> x.knowing(1));
-        Check.refused("there is no branch -1", IndexOutOfBoundsException.class, x, () -> x.knowing(-1));
-        Check.refused("there is no rule", IndexOutOfBoundsException.class, x, () -> x.isOn(0, 0, 0));
-        Check.refused("there is no listener", IndexOutOfBoundsException.class, x, () -> x.waiting(0));
+        Check.refused("there is no branch 1", IndexOutOfBoundsException.class, () -> x.knowing(1));
+        Check.refused("there is no branch -1", IndexOutOfBoundsException.class, () -> x.knowing(-1));
+        Check.refused("there is no rule", IndexOutOfBoundsException.class, () -> x.isOn(0, 0, 0));
+        Check.refused("there is no listener", IndexOutOfBoundsException.class, () -> x.waiting(0));
         for (int relation = 0; relation < 6; relation++) {
             Check.due("nothing holds", 0, x.count(0, 0, 12, relation));
             Check.due("every layer is 0", 0, x.layer(0, relation));
@@ -77,19 +77,19 @@ final class FactsTest {
         Versefold x = new Versefold();
         x.tell(0, 5, 0, 23);
         for (int branch : new int[] {-1, 1, 4, Integer.MIN_VALUE, Integer.MAX_VALUE}) {
-            Check.refused("tell in no branch", IndexOutOfBoundsException.class, x, () -> x.tell(branch, -1, 5, 4));
-            Check.refused("untell in no branch", IndexOutOfBoundsException.class, x,
+            Check.refused("tell in no branch", IndexOutOfBoundsException.class, () -> x.tell(branch, -1, 5, 4));
+            Check.refused("untell in no branch", IndexOutOfBoundsException.class,
                     () -> x.untell(branch, -1, 5, 4));
         }
         for (int fact : new int[] {-1, 384, Integer.MIN_VALUE, Integer.MAX_VALUE}) {
-            Check.refused("tell no fact", IllegalArgumentException.class, x, () -> x.tell(0, fact, 0, 0));
-            Check.refused("untell no fact", IllegalArgumentException.class, x, () -> x.untell(0, fact, 0, 0));
+            Check.refused("tell no fact", IllegalArgumentException.class, () -> x.tell(0, fact, 0, 0));
+            Check.refused("untell no fact", IllegalArgumentException.class, () -> x.untell(0, fact, 0, 0));
         }
         int[][] spans = {{-1, 0}, {0, 24}, {24, 24}, {5, 4}, {-2, -1}, {23, 0},
             {Integer.MIN_VALUE, Integer.MAX_VALUE}, {0, Integer.MAX_VALUE}};
         for (int[] span : spans) {
-            Check.refused("tell no span", IllegalArgumentException.class, x, () -> x.tell(0, 5, span[0], span[1]));
-            Check.refused("untell no span", IllegalArgumentException.class, x,
+            Check.refused("tell no span", IllegalArgumentException.class, () -> x.tell(0, 5, span[0], span[1]));
+            Check.refused("untell no span", IllegalArgumentException.class,
                     () -> x.untell(0, 5, span[0], span[1]));
         }
     }
@@ -99,10 +99,10 @@ final class FactsTest {
         Check.due("not unique at first", false, x.setUnique(1, true));
         Check.due("was unique", true, x.setUnique(1, true));
         x.tell(0, 64 + 8 + 2, 3, 6);
-        Check.refused("another second thing", UnsupportedOperationException.class, x, () -> x.tell(0, 64 + 8 + 3, 0, 3));
-        Check.refused("behind", UnsupportedOperationException.class, x, () -> x.tell(0, 64 + 8 + 3, 6, 9));
-        Check.refused("inside", UnsupportedOperationException.class, x, () -> x.tell(0, 64 + 8, 4, 5));
-        Check.refused("around", UnsupportedOperationException.class, x, () -> x.tell(0, 64 + 8 + 7, 0, 23));
+        Check.refused("another second thing", UnsupportedOperationException.class, () -> x.tell(0, 64 + 8 + 3, 0, 3));
+        Check.refused("behind", UnsupportedOperationException.class, () -> x.tell(0, 64 + 8 + 3, 6, 9));
+        Check.refused("inside", UnsupportedOperationException.class, () -> x.tell(0, 64 + 8, 4, 5));
+        Check.refused("around", UnsupportedOperationException.class, () -> x.tell(0, 64 + 8 + 7, 0, 23));
         Check.due("beside in time", 2, x.tell(0, 64 + 8 + 3, 0, 2));
         Check.due("beside in time, later", 3, x.tell(0, 64 + 8 + 3, 7, 7));
         Check.due("the same fact", 4, x.tell(0, 64 + 8 + 2, 4, 5));
@@ -114,17 +114,17 @@ final class FactsTest {
         Check.due("no more unique", true, x.setUnique(1, false));
         Check.due("then both", 10, x.tell(0, 64 + 8 + 2, 3, 6));
         Check.due("unique again over what is told", false, x.setUnique(1, true));
-        Check.refused("both stand against each other", UnsupportedOperationException.class, x,
+        Check.refused("both stand against each other", UnsupportedOperationException.class,
                 () -> x.tell(0, 64 + 8 + 2, 3, 3));
         Check.due("where it is told alone", 11, x.tell(0, 64 + 8 + 2, 8, 23));
         for (int relation : new int[] {-1, 6, Integer.MIN_VALUE, Integer.MAX_VALUE}) {
-            Check.refused("no relation", IllegalArgumentException.class, x, () -> x.setUnique(relation, true));
+            Check.refused("no relation", IllegalArgumentException.class, () -> x.setUnique(relation, true));
         }
         x.forget(2);
         Check.due("a forgotten telling is not against it", 12, x.tell(0, 64 + 8 + 5, 9, 9));
         int branch = x.fork(0, 0);
         Check.due("other branches do not count", 1, x.tell(branch, 64 + 8 + 6, 9, 9));
-        Check.refused("but all have the setting", UnsupportedOperationException.class, x,
+        Check.refused("but all have the setting", UnsupportedOperationException.class,
                 () -> x.tell(branch, 64 + 8 + 7, 9, 9));
     }
 
@@ -145,8 +145,8 @@ final class FactsTest {
         for (int i = 1; i <= 60; i++) {
             Check.due("telling " + i, i, i % 2 == 1 ? x.tell(0, 1, 0, 23) : x.untell(0, 65, 0, 23));
         }
-        Check.refused("tell one more", IllegalStateException.class, x, () -> x.tell(0, 1, 0, 0));
-        Check.refused("untell one more", IllegalStateException.class, x, () -> x.untell(0, 1, 0, 0));
+        Check.refused("tell one more", IllegalStateException.class, () -> x.tell(0, 1, 0, 0));
+        Check.refused("untell one more", IllegalStateException.class, () -> x.untell(0, 1, 0, 0));
         Check.refused("unique comes first", UnsupportedOperationException.class, () -> x.tell(0, 2, 0, 0));
         Check.refused("the argument comes first", IllegalArgumentException.class, () -> x.tell(0, 384, 0, 0));
         Check.refused("the argument comes first", IllegalArgumentException.class, () -> x.untell(0, 384, 0, 0));

@@ -53,8 +53,8 @@ final class FiguresTest {
         Check.due("by the present knowing of the fork", 0.0f, x.derivedShare(1, 4));
         x.untell(0, 1, 0, 23);
         Check.due("told alone", 0.0f, x.derivedShare(0, 4));
-        Check.refused("none holds", ArithmeticException.class, x, () -> x.derivedShare(0, 5));
-        Check.refused("none holds in this hour", ArithmeticException.class, x, () -> x.derivedShare(1, 21));
+        Check.refused("none holds", ArithmeticException.class, () -> x.derivedShare(0, 5));
+        Check.refused("none holds in this hour", ArithmeticException.class, () -> x.derivedShare(1, 21));
     }
 
     private static void meanRank() {
@@ -74,23 +74,23 @@ final class FiguresTest {
         Check.due("and 0", 4.0 / 7.0, x.meanRank(0, 5));
         x.fork(0, 2);
         Check.due("of the fork", 0.5, x.meanRank(1, 5));
-        Check.refused("none holds", ArithmeticException.class, x, () -> x.meanRank(0, 21));
+        Check.refused("none holds", ArithmeticException.class, () -> x.meanRank(0, 21));
         x.forget(0);
-        Check.refused("none holds any more", ArithmeticException.class, x, () -> x.meanRank(1, 5));
+        Check.refused("none holds any more", ArithmeticException.class, () -> x.meanRank(1, 5));
     }
 
     private static void refusedFigures() {
         Versefold x = new Versefold();
         for (int wrong : WRONG) {
-            Check.refused("branch", IndexOutOfBoundsException.class, x, () -> x.derivedShare(wrong, 24));
-            Check.refused("branch", IndexOutOfBoundsException.class, x, () -> x.meanRank(wrong, 24));
-            Check.refused("hour", IllegalArgumentException.class, x, () -> x.derivedShare(0, wrong));
-            Check.refused("hour", IllegalArgumentException.class, x, () -> x.meanRank(0, wrong));
+            Check.refused("branch", IndexOutOfBoundsException.class, () -> x.derivedShare(wrong, 24));
+            Check.refused("branch", IndexOutOfBoundsException.class, () -> x.meanRank(wrong, 24));
+            Check.refused("hour", IllegalArgumentException.class, () -> x.derivedShare(0, wrong));
+            Check.refused("hour", IllegalArgumentException.class, () -> x.meanRank(0, wrong));
         }
-        Check.refused("branch 1", IndexOutOfBoundsException.class, x, () -> x.derivedShare(1, 0));
-        Check.refused("branch 1", IndexOutOfBoundsException.class, x, () -> x.meanRank(1, 0));
-        Check.refused("nothing", ArithmeticException.class, x, () -> x.derivedShare(0, 23));
-        Check.refused("nothing", ArithmeticException.class, x, () -> x.meanRank(0, 23));
+        Check.refused("branch 1", IndexOutOfBoundsException.class, () -> x.derivedShare(1, 0));
+        Check.refused("branch 1", IndexOutOfBoundsException.class, () -> x.meanRank(1, 0));
+        Check.refused("nothing", ArithmeticException.class, () -> x.derivedShare(0, 23));
+        Check.refused("nothing", ArithmeticException.class, () -> x.meanRank(0, 23));
     }
 
     /** That isSound answers false cannot be brought about by calls: the state is spoilt behind the face here. */
@@ -108,9 +108,12 @@ final class FiguresTest {
         Check.due("sound", true, x.isSound());
         for (int branch = 0; branch < 2; branch++) {
             for (int hour = 0; hour < 24; hour++) {
-                spoilHeld(x, branch, hour, 1L << 63);
-                Check.due("spoilt in the hour " + hour, hour % 6 != 0, x.isSound());
-                spoilHeld(x, branch, hour, 1L << 63);
+                for (int relation = 0; relation < 6; relation++) {
+                    long bit = 1L << (relation % 2 == 0 ? 0 : 63);
+                    spoilHeld(x, branch, hour, relation, bit);
+                    Check.due("spoilt in the hour " + hour, hour % 6 != 0, x.isSound());
+                    spoilHeld(x, branch, hour, relation, bit);
+                }
             }
             for (int knowing = 0; knowing <= x.knowing(branch); knowing++) {
                 spoilSeal(x, branch, knowing, 1);
@@ -121,10 +124,10 @@ final class FiguresTest {
         Check.due("mended", true, x.isSound());
     }
 
-    private static void spoilHeld(Versefold x, int branch, int hour, long bit) {
+    private static void spoilHeld(Versefold x, int branch, int hour, int relation, long bit) {
         x.holds(branch, x.knowing(branch), hour, 0);
         Object kept = ((Object[]) field(row(x, branch), "kept"))[hour];
-        ((long[]) field(kept, "held"))[5] ^= bit;
+        ((long[]) field(kept, "held"))[relation] ^= bit;
     }
 
     private static void spoilSeal(Versefold x, int branch, int knowing, int change) {

@@ -34,7 +34,7 @@ final class ForgettingTest {
         Check.due("and hold", true, x.holds(0, 7, 0, 192 + 29));
         Check.due("until they are, too", 1, x.forget(5));
         for (int thing : new int[] {-1, 8, Integer.MIN_VALUE, Integer.MAX_VALUE}) {
-            Check.refused("no thing", IllegalArgumentException.class, x, () -> x.forget(thing));
+            Check.refused("no thing", IllegalArgumentException.class, () -> x.forget(thing));
         }
         Check.due("the last thing", 0, x.forget(7));
         Check.due("the rule 0 is not the thing 0", 0, x.forget(0));
@@ -85,7 +85,7 @@ final class ForgettingTest {
         Check.due("the second", true, x.isForgotten(0, 1));
         x.fork(0, 1);
         for (int wrong : WRONG) {
-            Check.refused("no branch", IndexOutOfBoundsException.class, x, () -> x.isForgotten(wrong, 0));
+            Check.refused("no branch", IndexOutOfBoundsException.class, () -> x.isForgotten(wrong, 0));
             Check.refused("no telling", IndexOutOfBoundsException.class, () -> x.isForgotten(0, wrong));
         }
         Check.refused("the next telling", IndexOutOfBoundsException.class, () -> x.isForgotten(0, 2));
@@ -114,8 +114,8 @@ final class ForgettingTest {
         x.fork(0, 2);
         Check.due("the fork's are the same", third, x.seal(1, 2));
         for (int wrong : WRONG) {
-            Check.refused("no branch", IndexOutOfBoundsException.class, x, () -> x.seal(wrong, 0));
-            Check.refused("no knowing", IndexOutOfBoundsException.class, x, () -> x.seal(0, wrong));
+            Check.refused("no branch", IndexOutOfBoundsException.class, () -> x.seal(wrong, 0));
+            Check.refused("no knowing", IndexOutOfBoundsException.class, () -> x.seal(0, wrong));
         }
         Check.refused("the next knowing", IndexOutOfBoundsException.class, () -> x.seal(0, 5));
         Check.refused("the next knowing of the fork", IndexOutOfBoundsException.class, () -> x.seal(1, 3));

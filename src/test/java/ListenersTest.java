@@ -24,7 +24,7 @@ final class ListenersTest {
             Check.due(what + ": change " + i, changes[i], x.next(listener));
             Check.due(what + ": left", changes.length - 1 - i, x.waiting(listener));
         }
-        Check.refused(what + ": no more", NoSuchElementException.class, x, () -> x.next(listener));
+        Check.refused(what + ": no more", NoSuchElementException.class, () -> x.next(listener));
     }
 
     private static void changesOfTold() {
@@ -181,24 +181,24 @@ final class ListenersTest {
     private static void refusedListeners() {
         Versefold x = new Versefold();
         for (int wrong : new int[] {-2, 8, Integer.MIN_VALUE, Integer.MAX_VALUE}) {
-            Check.refused("branch", IndexOutOfBoundsException.class, x, () -> x.listen(wrong, 6, 8, 8, 24));
-            Check.refused("relation", IllegalArgumentException.class, x, () -> x.listen(0, wrong, 0, 0, 0));
-            Check.refused("first", IllegalArgumentException.class, x, () -> x.listen(0, 0, wrong, 0, 0));
-            Check.refused("second", IllegalArgumentException.class, x, () -> x.listen(0, 0, 0, wrong, 0));
+            Check.refused("branch", IndexOutOfBoundsException.class, () -> x.listen(wrong, 6, 8, 8, 24));
+            Check.refused("relation", IllegalArgumentException.class, () -> x.listen(0, wrong, 0, 0, 0));
+            Check.refused("first", IllegalArgumentException.class, () -> x.listen(0, 0, wrong, 0, 0));
+            Check.refused("second", IllegalArgumentException.class, () -> x.listen(0, 0, 0, wrong, 0));
         }
-        Check.refused("branch 1", IndexOutOfBoundsException.class, x, () -> x.listen(1, 0, 0, 0, 0));
-        Check.refused("branch -1", IndexOutOfBoundsException.class, x, () -> x.listen(-1, 0, 0, 0, 0));
-        Check.refused("relation -1", IllegalArgumentException.class, x, () -> x.listen(0, -1, 0, 0, 0));
-        Check.refused("relation 6", IllegalArgumentException.class, x, () -> x.listen(0, 6, 0, 0, 0));
+        Check.refused("branch 1", IndexOutOfBoundsException.class, () -> x.listen(1, 0, 0, 0, 0));
+        Check.refused("branch -1", IndexOutOfBoundsException.class, () -> x.listen(-1, 0, 0, 0, 0));
+        Check.refused("relation -1", IllegalArgumentException.class, () -> x.listen(0, -1, 0, 0, 0));
+        Check.refused("relation 6", IllegalArgumentException.class, () -> x.listen(0, 6, 0, 0, 0));
         for (int hour : new int[] {-1, 24, Integer.MIN_VALUE, Integer.MAX_VALUE}) {
-            Check.refused("hour", IllegalArgumentException.class, x, () -> x.listen(0, 0, 0, 0, hour));
+            Check.refused("hour", IllegalArgumentException.class, () -> x.listen(0, 0, 0, 0, hour));
         }
         for (int i = 0; i < 5; i++) {
             Check.due("listener " + i, i, x.listen(0, 5, 7, 7, 23));
         }
-        Check.refused("five there", IllegalStateException.class, x, () -> x.listen(0, 0, 0, 0, 0));
-        Check.refused("argument first", IllegalArgumentException.class, x, () -> x.listen(0, 0, 0, 0, 24));
-        Check.refused("branch first", IndexOutOfBoundsException.class, x, () -> x.listen(1, 0, 0, 0, 0));
+        Check.refused("five there", IllegalStateException.class, () -> x.listen(0, 0, 0, 0, 0));
+        Check.refused("argument first", IllegalArgumentException.class, () -> x.listen(0, 0, 0, 0, 24));
+        Check.refused("branch first", IndexOutOfBoundsException.class, () -> x.listen(1, 0, 0, 0, 0));
         x.tell(0, 383, 23, 23);
         for (int i = 0; i < 5; i++) {
             dueChanges("each is told", x, i, 384);
@@ -207,13 +207,13 @@ final class ListenersTest {
 
     private static void refusedQuestions() {
         Versefold x = new Versefold();
-        Check.refused("no waiting 0", IndexOutOfBoundsException.class, x, () -> x.waiting(0));
-        Check.refused("no next 0", IndexOutOfBoundsException.class, x, () -> x.next(0));
+        Check.refused("no waiting 0", IndexOutOfBoundsException.class, () -> x.waiting(0));
+        Check.refused("no next 0", IndexOutOfBoundsException.class, () -> x.next(0));
         x.listen(0, 0, 0, 0, 0);
         x.tell(0, 0, 0, 0);
         for (int wrong : new int[] {-1, 1, 5, Integer.MIN_VALUE, Integer.MAX_VALUE}) {
-            Check.refused("waiting", IndexOutOfBoundsException.class, x, () -> x.waiting(wrong));
-            Check.refused("next", IndexOutOfBoundsException.class, x, () -> x.next(wrong));
+            Check.refused("waiting", IndexOutOfBoundsException.class, () -> x.waiting(wrong));
+            Check.refused("next", IndexOutOfBoundsException.class, () -> x.next(wrong));
         }
         dueChanges("asking takes none", x, 0, 1);
     }

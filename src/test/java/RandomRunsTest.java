@@ -164,7 +164,8 @@ final class RandomRunsTest {
     }
 
     private int to(int from) {
-        return hours < 24 ? pick(hours) : random.nextInt(12) == 0 ? pick(24) : from + random.nextInt(Math.max(1, 24 - from));
+        return hours < 24 ? pick(hours)
+                : random.nextInt(12) == 0 ? pick(24) : from + random.nextInt(Math.max(1, 24 - from));
     }
 
     private void call(int kind) {
@@ -191,7 +192,8 @@ final class RandomRunsTest {
         int y = variable();
         boolean is = random.nextInt(3) > 0;
         switch (kind) {
-            case 0 -> same("tell " + b + " " + f + " " + s + " " + t, () -> x.tell(b, f, s, t), () -> m.tell(b, f, s, t));
+            case 0 -> same("tell " + b + " " + f + " " + s + " " + t,
+                    () -> x.tell(b, f, s, t), () -> m.tell(b, f, s, t));
             case 1 -> same("untell " + b + " " + f + " " + s + " " + t,
                     () -> x.untell(b, f, s, t), () -> m.untell(b, f, s, t));
             case 2 -> same("setUnique " + p + " " + is, () -> x.setUnique(p, is), () -> m.setUnique(p, is));

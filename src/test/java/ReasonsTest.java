@@ -177,7 +177,7 @@ final class ReasonsTest {
                 Check.refused("branch", IndexOutOfBoundsException.class, q.ask(x, wrong, 0, 24, 384));
                 Check.refused("knowing", IndexOutOfBoundsException.class, q.ask(x, 0, wrong, 24, 384));
             }
-            Check.refused("branch 1", IndexOutOfBoundsException.class, x, q.ask(x, 1, 0, 0, 0));
+            Check.refused("branch 1", IndexOutOfBoundsException.class, q.ask(x, 1, 0, 0, 0));
             for (int hour : new int[] {-1, 24, Integer.MIN_VALUE, Integer.MAX_VALUE}) {
                 Check.refused("hour", IllegalArgumentException.class, q.ask(x, 0, 1, hour, 5));
             }
@@ -186,7 +186,7 @@ final class ReasonsTest {
             }
             Check.refused("another hour", NoSuchElementException.class, q.ask(x, 0, 1, 5, 5));
             Check.refused("another knowing", NoSuchElementException.class, q.ask(x, 0, 0, 3, 5));
-            Check.refused("another fact", NoSuchElementException.class, x, q.ask(x, 0, 1, 3, 6));
+            Check.refused("another fact", NoSuchElementException.class, q.ask(x, 0, 1, 3, 6));
         }
         Check.due("it is told", 0, x.rank(0, 1, 3, 5));
     }
@@ -196,9 +196,9 @@ final class ReasonsTest {
         x.addRule(1, 0, 1, 0, 0, 1);
         x.turn(0, 0, true);
         x.tell(0, 5, 3, 4);
-        Check.refused("a told fact has none", NoSuchElementException.class, x, () -> x.reasonFact(0, 2, 3, 5, 0));
+        Check.refused("a told fact has none", NoSuchElementException.class, () -> x.reasonFact(0, 2, 3, 5, 0));
         Check.due("a derived one has", 5, x.reasonFact(0, 2, 3, 69, 0));
-        Check.refused("but one", NoSuchElementException.class, x, () -> x.reasonFact(0, 2, 3, 69, 1));
-        Check.refused("none ahead of it", NoSuchElementException.class, x, () -> x.reasonFact(0, 2, 3, 69, -1));
+        Check.refused("but one", NoSuchElementException.class, () -> x.reasonFact(0, 2, 3, 69, 1));
+        Check.refused("none ahead of it", NoSuchElementException.class, () -> x.reasonFact(0, 2, 3, 69, -1));
     }
 }

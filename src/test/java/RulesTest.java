@@ -38,14 +38,14 @@ final class RulesTest {
         Versefold x = new Versefold();
         int[] wrong = {-1, 6, Integer.MIN_VALUE, Integer.MAX_VALUE};
         for (int relation : wrong) {
-            Check.refused("no head", IllegalArgumentException.class, x, () -> x.addRule(relation, 0, 0, 0, 0, 0));
-            Check.refused("no condition", IllegalArgumentException.class, x, () -> x.addRule(0, 0, 0, relation, 0, 0));
+            Check.refused("no head", IllegalArgumentException.class, () -> x.addRule(relation, 0, 0, 0, 0, 0));
+            Check.refused("no condition", IllegalArgumentException.class, () -> x.addRule(0, 0, 0, relation, 0, 0));
         }
         for (int variable : new int[] {-1, 3, Integer.MIN_VALUE, Integer.MAX_VALUE}) {
-            Check.refused("no first", IllegalArgumentException.class, x, () -> x.addRule(0, variable, 0, 0, 0, 0));
-            Check.refused("no second", IllegalArgumentException.class, x, () -> x.addRule(0, 0, variable, 0, 0, 0));
-            Check.refused("no one", IllegalArgumentException.class, x, () -> x.addRule(0, 0, 0, 0, variable, 0));
-            Check.refused("no other", IllegalArgumentException.class, x, () -> x.addRule(0, 0, 0, 0, 0, variable));
+            Check.refused("no first", IllegalArgumentException.class, () -> x.addRule(0, variable, 0, 0, 0, 0));
+            Check.refused("no second", IllegalArgumentException.class, () -> x.addRule(0, 0, variable, 0, 0, 0));
+            Check.refused("no one", IllegalArgumentException.class, () -> x.addRule(0, 0, 0, 0, variable, 0));
+            Check.refused("no other", IllegalArgumentException.class, () -> x.addRule(0, 0, 0, 0, 0, variable));
         }
         Check.due("none was added", 0, x.addRule(0, 0, 0, 0, 0, 0));
     }
@@ -55,11 +55,11 @@ final class RulesTest {
         for (int i = 0; i < 10; i++) {
             Check.due("rule " + i, i, x.addRule(i % 6, 0, 1, 5 - i % 6, 0, 1));
         }
-        Check.refused("an eleventh rule", IllegalStateException.class, x, () -> x.addRule(0, 0, 0, 0, 0, 0));
-        Check.refused("the argument comes first", IllegalArgumentException.class, x,
+        Check.refused("an eleventh rule", IllegalStateException.class, () -> x.addRule(0, 0, 0, 0, 0, 0));
+        Check.refused("the argument comes first", IllegalArgumentException.class,
                 () -> x.addRule(0, 0, 3, 0, 0, 0));
         Check.due("the tenth can be on", 1, x.turn(0, 9, true));
-        Check.refused("no rule 10", IndexOutOfBoundsException.class, x, () -> x.turn(0, 10, true));
+        Check.refused("no rule 10", IndexOutOfBoundsException.class, () -> x.turn(0, 10, true));
     }
 
     private static void addCondition() {
@@ -85,31 +85,31 @@ final class RulesTest {
         Versefold x = new Versefold();
         x.addRule(2, 0, 1, 0, 0, 1);
         for (int rule : new int[] {-1, 1, 10, Integer.MIN_VALUE, Integer.MAX_VALUE}) {
-            Check.refused("no rule", IndexOutOfBoundsException.class, x, () -> x.addCondition(rule, 6, 0, 0, false));
+            Check.refused("no rule", IndexOutOfBoundsException.class, () -> x.addCondition(rule, 6, 0, 0, false));
         }
         for (int relation : new int[] {-1, 6, Integer.MAX_VALUE}) {
-            Check.refused("no relation", IllegalArgumentException.class, x,
+            Check.refused("no relation", IllegalArgumentException.class,
                     () -> x.addCondition(0, relation, 0, 0, false));
         }
         for (int variable : new int[] {-1, 3, Integer.MIN_VALUE}) {
-            Check.refused("no one", IllegalArgumentException.class, x,
+            Check.refused("no one", IllegalArgumentException.class,
                     () -> x.addCondition(0, 0, variable, 0, true));
-            Check.refused("no other", IllegalArgumentException.class, x,
+            Check.refused("no other", IllegalArgumentException.class,
                     () -> x.addCondition(0, 0, 0, variable, true));
         }
         Check.due("none of these was added", 2, x.addCondition(0, 0, 0, 1, false));
         x.addCondition(0, 0, 0, 1, false);
-        Check.refused("three there", IllegalStateException.class, x, () -> x.addCondition(0, 0, 0, 1, false));
-        Check.refused("the argument comes first", IllegalArgumentException.class, x,
+        Check.refused("three there", IllegalStateException.class, () -> x.addCondition(0, 0, 0, 1, false));
+        Check.refused("the argument comes first", IllegalArgumentException.class,
                 () -> x.addCondition(0, 0, 0, 3, false));
         x.addRule(2, 0, 1, 0, 0, 1);
         int branch = x.fork(0, 0);
         x.turn(branch, 1, true);
-        Check.refused("on in some branch", IllegalStateException.class, x, () -> x.addCondition(1, 0, 0, 1, false));
+        Check.refused("on in some branch", IllegalStateException.class, () -> x.addCondition(1, 0, 0, 1, false));
         x.turn(branch, 1, false);
-        Check.refused("was on", IllegalStateException.class, x, () -> x.addCondition(1, 0, 0, 1, false));
+        Check.refused("was on", IllegalStateException.class, () -> x.addCondition(1, 0, 0, 1, false));
         x.addRule(2, 0, 2, 0, 0, 1);
-        Check.refused("cannot be on", UnsupportedOperationException.class, x, () -> x.turn(0, 2, true));
+        Check.refused("cannot be on", UnsupportedOperationException.class, () -> x.turn(0, 2, true));
         Check.due("so it was never on", 2, x.addCondition(2, 0, 1, 2, false));
     }
 
@@ -130,15 +130,15 @@ final class RulesTest {
     private static void unboundVariables() {
         Versefold x = new Versefold();
         x.addRule(1, 0, 2, 0, 0, 1);
-        Check.refused("the head has a free variable", UnsupportedOperationException.class, x, () -> x.turn(0, 0, true));
+        Check.refused("the head has a free variable", UnsupportedOperationException.class, () -> x.turn(0, 0, true));
         x.addCondition(0, 2, 0, 2, true);
-        Check.refused("a contrary condition does not bind it", UnsupportedOperationException.class, x,
+        Check.refused("a contrary condition does not bind it", UnsupportedOperationException.class,
                 () -> x.turn(0, 0, true));
         x.addCondition(0, 0, 2, 2, false);
         Check.due("a straight one does", 1, x.turn(0, 0, true));
         x.addRule(1, 1, 1, 0, 1, 1);
         x.addCondition(1, 2, 1, 0, true);
-        Check.refused("free in a contrary condition", UnsupportedOperationException.class, x,
+        Check.refused("free in a contrary condition", UnsupportedOperationException.class,
                 () -> x.turn(0, 1, true));
         Check.due("it may be off", 2, x.turn(0, 1, false));
         x.addRule(3, 2, 2, 0, 2, 2);
@@ -149,18 +149,18 @@ final class RulesTest {
         Versefold x = new Versefold();
         x.addRule(1, 0, 1, 0, 0, 1);
         x.addCondition(0, 1, 0, 1, true);
-        Check.refused("contrary to its own head", UnsupportedOperationException.class, x, () -> x.turn(0, 0, true));
+        Check.refused("contrary to its own head", UnsupportedOperationException.class, () -> x.turn(0, 0, true));
         x.addRule(1, 0, 1, 0, 0, 1);
         x.addCondition(1, 2, 0, 1, true);
         x.addRule(2, 0, 1, 3, 0, 1);
         x.addRule(3, 0, 1, 1, 0, 1);
         Check.due("1 over 2", 1, x.turn(0, 1, true));
         Check.due("2 from 3", 2, x.turn(0, 2, true));
-        Check.refused("3 from 1 closes the round", UnsupportedOperationException.class, x, () -> x.turn(0, 3, true));
+        Check.refused("3 from 1 closes the round", UnsupportedOperationException.class, () -> x.turn(0, 3, true));
         Check.due("each layer stays", 1, x.layer(0, 1));
         Check.due("2 from 3 is off", 3, x.turn(0, 2, false));
         Check.due("then 3 from 1", 4, x.turn(0, 3, true));
-        Check.refused("then 2 from 3 closes it", UnsupportedOperationException.class, x, () -> x.turn(0, 2, true));
+        Check.refused("then 2 from 3 closes it", UnsupportedOperationException.class, () -> x.turn(0, 2, true));
         Check.due("in another branch it does not", 1, x.fork(0, 0));
         Check.due("2 from 3 there", 1, x.turn(1, 2, true));
         x.addRule(4, 0, 1, 4, 1, 0);
@@ -172,14 +172,14 @@ final class RulesTest {
         x.addRule(1, 0, 1, 0, 0, 1);
         x.addRule(1, 0, 2, 0, 0, 1);
         for (int wrong : new int[] {-1, 2, 10, Integer.MIN_VALUE, Integer.MAX_VALUE}) {
-            Check.refused("no branch", IndexOutOfBoundsException.class, x, () -> x.turn(wrong, 0, true));
-            Check.refused("no rule", IndexOutOfBoundsException.class, x, () -> x.turn(0, wrong, true));
+            Check.refused("no branch", IndexOutOfBoundsException.class, () -> x.turn(wrong, 0, true));
+            Check.refused("no rule", IndexOutOfBoundsException.class, () -> x.turn(0, wrong, true));
         }
         for (int i = 0; i < 60; i++) {
             x.turn(0, i % 2, false);
         }
-        Check.refused("full", IllegalStateException.class, x, () -> x.turn(0, 0, true));
-        Check.refused("full, to be off", IllegalStateException.class, x, () -> x.turn(0, 1, false));
+        Check.refused("full", IllegalStateException.class, () -> x.turn(0, 0, true));
+        Check.refused("full, to be off", IllegalStateException.class, () -> x.turn(0, 1, false));
         Check.refused("free comes first", UnsupportedOperationException.class, () -> x.turn(0, 1, true));
         Check.refused("no rule comes first", IndexOutOfBoundsException.class, () -> x.turn(0, 2, true));
         Check.due("the refused turn did not put it on", 2, x.addCondition(0, 0, 0, 1, false));
@@ -233,7 +233,7 @@ final class RulesTest {
         Check.due("a gap", 0, x.layer(0, 4));
         Check.due("above the gap", 1, x.layer(0, 5));
         x.turn(0, 0, false);
-        Check.refused("1 from 2 that is over 1", UnsupportedOperationException.class, x, () -> x.turn(0, 5, true));
+        Check.refused("1 from 2 that is over 1", UnsupportedOperationException.class, () -> x.turn(0, 5, true));
         x.turn(0, 1, false);
         Check.due("1 from 2 alone", 10, x.turn(0, 5, true) + 1);
         Check.due("takes its layer", 0, x.layer(0, 1));
