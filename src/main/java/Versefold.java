@@ -325,7 +325,7 @@ public final class Versefold {
 
     public int next(int listener) throws IndexOutOfBoundsException, NoSuchElementException {
         Listener asked = listenerAt(listener);
-        if (asked.untold == 0) {
+        if (!asked.hasUntold()) {
             throw new NoSuchElementException("no change waits");
         }
         return asked.takeChange();
@@ -1091,8 +1091,15 @@ public final class Versefold {
             heldBefore = heldNow;
         }
 
-        /** Some change must be untold. */
+        boolean hasUntold() {
+            return first < end;
+        }
+
+        /** The change that has waited longest, or 0. */
         int takeChange() {
+            if (!hasUntold()) {
+                return 0;
+            }
             long changed = come[first] | gone[first];
             int pair = 0;
             while (pair < PAIRS - 1 && (changed >>> pair & 1L) == 0L) {

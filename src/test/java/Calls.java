@@ -93,12 +93,17 @@ final class Calls {
             return String.valueOf(method.invoke(target, arguments));
         } catch (InvocationTargetException e) {
             if (e.getCause() instanceof RuntimeException) {
-                return "throws." + e.getCause().getClass().getSimpleName();
+                return (isOfMachine(e.getCause()) ? "machine." : "throws.") + e.getCause().getClass().getSimpleName();
             }
             throw new IllegalStateException(call, e.getCause());
         } catch (IllegalAccessException e) {
             throw new IllegalStateException(call, e);
         }
+    }
+
+    /** That of a division is the one that the machine throws under a name that the document has, too. */
+    private static boolean isOfMachine(Throwable thrown) {
+        return thrown instanceof ArithmeticException && "/ by zero".equals(thrown.getMessage());
     }
 
     private static boolean isTrue(String word) {

@@ -12,8 +12,8 @@ final class LanguageTest {
             "->", "::", "\\bassert\\b", "\\bfinally\\b", "\\bsynchronized\\b", "\\bvolatile\\b", "\\bcatch\\b",
             "\\binterface\\b.*\\bsealed\\b", "\\bvar\\b", "\\bvarargs\\b", "\\.\\.\\.", "Exact\\(", "\\bnative\\b",
             "\\bprotected\\b", "\"\\s*\\+", "\\+\\s*\"", "\\bMap\\b", "\\bSet\\b", "\\bThread\\b",
-            "\\bclass\\b.*Exception", "\\bObject\\b", "System\\.(?!arraycopy)", "Integer\\.valueOf", "\\bequals\\b", "\\bhashCode\\b",
-            "\\btoString\\b", "^package\\b", "static\\s*\\{");
+            "\\bclass\\b.*Exception", "\\bObject\\b", "System\\.(?!arraycopy)", "Integer\\.valueOf", "\\bequals\\b",
+            "\\bhashCode\\b", "\\btoString\\b", "^package\\b", "static\\s*\\{");
     private static final List<String> IMPORTS = List.of("java.util.Arrays", "java.util.NoSuchElementException");
 
     private LanguageTest() {

@@ -22,9 +22,10 @@ final class RangesTest {
             "holdsAnew branch knowing hour fact", "count branch knowing hour relation",
             "spanFrom branch knowing hour fact", "spanTo branch knowing hour fact", "since branch hour fact",
             "rank branch knowing hour fact", "reason branch knowing hour fact",
-            "reasonFact branch knowing hour fact any", "proof branch knowing hour fact", "forget thing", "isForgotten branch telling", "seal branch knowing",
-            "fork branch knowing", "merge forked", "listen branch relation listened listened hour", "waiting listener",
-            "next listener", "derivedShare branch hour", "meanRank branch hour");
+            "reasonFact branch knowing hour fact any", "proof branch knowing hour fact", "forget thing",
+            "isForgotten branch telling", "seal branch knowing", "fork branch knowing", "merge forked",
+            "listen branch relation listened listened hour", "waiting listener", "next listener",
+            "derivedShare branch hour", "meanRank branch hour");
 
     private static final String RICH = """
             addRule 1 0 1 0 0 1

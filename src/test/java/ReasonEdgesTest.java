@@ -20,6 +20,8 @@ final class ReasonEdgesTest {
         contraryOnesAreNone();
         eachFactOnce();
         proofOfThreeConditions();
+        allPairs();
+        allWays();
         byTheKnowing();
     }
 
@@ -266,6 +268,54 @@ final class ReasonEdgesTest {
             reasonFact 0 13 0 324 1 -> 316
             reasonFact 0 13 0 324 2 -> 352
             """);
+    }
+
+    /** The relation 0 goes round all things; the relation 1 is where one comes by it, and its rank how far that is. */
+    private static void allPairs() {
+        StringBuilder text = new StringBuilder("""
+            addRule 1 0 1 0 0 1 -> 0
+            addRule 1 0 2 1 0 1 -> 1
+            addCondition 1 0 1 2 false -> 2
+            turn 0 {0,1} true -> 1..2
+            tell 0 {1,10,19,28,37,46,55,56} 0 0 -> 3..10
+            """);
+        for (int pair = 0; pair < 64; pair++) {
+            int first = pair / 8;
+            int way = 1 + (pair % 8 - first + 7) % 8;
+            int before = (pair + 7) % 8;
+            text.append("rank 0 10 0 ").append(64 + pair).append(" -> ").append(way).append('\n');
+            text.append("proof 0 10 0 ").append(64 + pair).append(" -> ").append(2 * way).append('\n');
+            text.append("reason 0 10 0 ").append(64 + pair).append(" -> ").append(way == 1 ? 0 : 1).append('\n');
+            text.append("reasonFact 0 10 0 ").append(64 + pair).append(" 0 -> ")
+                    .append(way == 1 ? pair : 64 + 8 * first + before).append('\n');
+        }
+        Story.dues("17, 18, 19, 20: of all 64 facts of a relation", text + "meanRank 0 0 -> 4.0\n");
+    }
+
+    /** Each rule puts all things for two of the variables: the relation 5 is marks of the things. */
+    private static void allWays() {
+        StringBuilder text = new StringBuilder("""
+            addRule 0 0 1 5 0 0 -> 0
+            addCondition 0 5 1 1 false -> 2
+            addRule 1 0 2 5 0 0 -> 1
+            addCondition 1 5 2 2 false -> 2
+            addRule 2 1 2 5 1 1 -> 2
+            addCondition 2 5 2 2 false -> 2
+            addRule 3 2 1 5 2 2 -> 3
+            addCondition 3 5 1 1 false -> 2
+            addRule 4 1 0 5 1 1 -> 4
+            addCondition 4 5 0 0 false -> 2
+            turn 0 {0..4} true -> 1..5
+            tell 0 {320,329,338,347,356,365,374,383} 0 0 -> 6..13
+            count 0 13 0 {0..4} -> 64
+            rank 0 13 0 {0..319} -> 1
+            """);
+        for (int pair = 0; pair < 64; pair++) {
+            String call = "reasonFact 0 13 0 " + (128 + pair);
+            text.append(call).append(" 0 -> ").append(320 + pair / 8 * 9).append('\n');
+            text.append(call).append(" 1 -> ").append(320 + pair % 8 * 9).append('\n');
+        }
+        Story.dues("Terms: for each way to put things for the variables", text.toString());
     }
 
     private static void byTheKnowing() {

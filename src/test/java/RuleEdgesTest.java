@@ -18,6 +18,7 @@ final class RuleEdgesTest {
         contraryVariables();
         layersOfTwo();
         layersOfSix();
+        layersAgainstTheOrder();
         layersByTheRulesOn();
         offIsNeverUnsupported();
         whichExceptionOfTurn();
@@ -289,6 +290,27 @@ final class RuleEdgesTest {
             turn 0 7 true -> throws.UnsupportedOperationException
             layer 0 {3,4} -> 0
             layer 0 {0,1,2,5} -> 1
+            """);
+    }
+
+    /** Each rule needs the one behind it: of those that look through the rules in order it takes the most rounds. */
+    private static void layersAgainstTheOrder() {
+        Story.dues("7, 9: in whatever order the rules stand", """
+            addRule 4 0 1 3 0 1 -> 0
+            addRule 3 0 1 2 0 1 -> 1
+            addRule 2 0 1 1 0 1 -> 2
+            addRule 1 0 1 0 0 1 -> 3
+            addRule 0 0 1 5 0 1 -> 4
+            addRule 5 0 1 5 0 1 -> 5
+            addCondition 5 4 0 1 true -> 2
+            turn 0 {0..4} true -> 1..5
+            turn 0 5 true -> throws.UnsupportedOperationException
+            layer 0 {0..5} -> 0
+            turn 0 0 false -> 6
+            turn 0 5 true -> 7
+            layer 0 {0,1,2,3,5} -> 1
+            layer 0 4 -> 0
+            turn 0 0 true -> throws.UnsupportedOperationException
             """);
     }
 
