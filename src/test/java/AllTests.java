@@ -1,3 +1,5 @@
+import java.nio.file.Path;
+
 /** Runs every test of the project; ends with exit code 1 if one fails. */
 public final class AllTests {
     private static final int RANDOM_RUNS = 400;
@@ -6,8 +8,10 @@ public final class AllTests {
     }
 
     public static void main(String[] args) {
+        Path program = Path.of(args.length > 0 ? args[0] : "src/main/java/Versefold.java").toAbsolutePath();
         FaceTest.run();
-        LanguageTest.run(args.length > 0 ? args[0] : "src/main/java/Versefold.java");
+        LanguageTest.run(program);
+        ReadmeTest.run(program.resolve("../../../../README.md").normalize());
         FactsTest.run();
         RulesTest.run();
         AnswersTest.run();
